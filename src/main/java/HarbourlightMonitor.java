@@ -986,7 +986,6 @@ public final class HarbourlightMonitor {
             if (state != BURNING || ticksNotBeyond >= TICKS_TILL_GONE) {
                 state = ABSENT;
                 since = NONE;
-                ticksNotBeyond = 0;
             }
         }
 

@@ -66,6 +66,10 @@ public final class ReferenceTest {
                 a[1 + i / 2] = wild[random.nextInt(wild.length)];
             }
         }
+        if (kind == 1 && random.nextInt(3) > 0) {
+            int[] told = {0, 5, 10, 11, 30, 50, 51, 80, 100, 101, 300, 500, 501, 1000};
+            a[2] = told[random.nextInt(told.length)];
+        }
         return a;
     }
 

@@ -9,6 +9,7 @@ public final class WasTest {
         promise16LooksOfACounter();
         promise16LooksOfAGauge();
         promise16Parts();
+        promise16PartsOfMany();
         promise16PartsGrow();
         promise16Refuses();
         promise17Growth();
@@ -186,6 +187,31 @@ public final class WasTest {
         x.tick(1);
         c.due("16 PART is cut", x.look(0, 5, 1), 50 + 50 * 2 / 3);
         c.due("16 PART 99 of the third COUNT", x.look(0, 8, 1), 100);
+    }
+
+    private static void promise16PartsOfMany() {
+        HarbourlightMonitor x = new HarbourlightMonitor();
+        x.series(2, 0, 0);
+        x.tick(1);
+        for (int i = 0; i < 4; i++) {
+            x.tell(0, i);
+        }
+        x.tick(1);
+        c.due("16 PART 50, the 2nd of 4 in the first COUNT", x.look(0, 5, 1), 10 * 2 / 4);
+        c.due("16 PART 75, the 3rd of 4 in the first COUNT", x.look(0, 6, 1), 10 * 3 / 4);
+        for (int i = 0; i < 200; i++) {
+            x.tell(0, i < 80 ? 5 : i < 120 ? 20 : i < 160 ? 70 : 300);
+        }
+        x.tick(1);
+        // COUNTS grew by 80, 40, 40, 40: the 100th, the 150th, the 180th, the 198th
+        c.due("16 PART 50 of 200", x.look(0, 5, 1), 10 + 40 * 20 / 40);
+        c.due("16 PART 75 of 200", x.look(0, 6, 1), 50 + 50 * 30 / 40);
+        c.due("16 PART 90 of 200", x.look(0, 7, 1), 100 + 400 * 20 / 40);
+        c.due("16 PART 99 of 200", x.look(0, 8, 1), 100 + 400 * 38 / 40);
+        x.tell(0, 5);
+        x.tell(0, 20);
+        x.tick(1);
+        c.due("16 PART 50, just all of the first COUNT", x.look(0, 5, 1), 10);
     }
 
     private static void promise16PartsGrow() {

@@ -15,10 +15,12 @@ final class Checks {
         verdict(call, got == want, String.valueOf(got), String.valueOf(want));
     }
 
-    /** Also looks that the refused call changed nothing. */
+    /** Also looks that the refused call changed nothing, and that the class threw by itself, not the library for it. */
     void refused(String call, HarbourlightMonitor x, Class<? extends RuntimeException> due, Call made) {
         long before = x.digest();
-        verdict(call, thrownBy(made) == due, nameOf(thrownBy(made)), nameOf(due));
+        RuntimeException thrown = thrownBy(made);
+        String got = thrown == null ? "no exception" : thrown.getClass().getSimpleName() + " of " + throwerOf(thrown);
+        verdict(call, got.equals(due.getSimpleName() + " of HarbourlightMonitor"), got, due.getSimpleName());
         due(call + " changes nothing: digest()", x.digest(), before);
     }
 
@@ -41,17 +43,18 @@ final class Checks {
         }
     }
 
-    private static Class<?> thrownBy(Call made) {
+    private static RuntimeException thrownBy(Call made) {
         try {
             made.make();
             return null;
         } catch (RuntimeException e) {
-            return e.getClass();
+            return e;
         }
     }
 
-    private static String nameOf(Class<?> thrown) {
-        return thrown == null ? "no exception" : thrown.getSimpleName();
+    private static String throwerOf(RuntimeException thrown) {
+        StackTraceElement[] frames = thrown.getStackTrace();
+        return frames.length == 0 ? "the machine" : frames[0].getClassName();
     }
 
     private void verdict(String call, boolean isRight, String got, String want) {

@@ -9,6 +9,7 @@ public final class NoticesTest {
         promise22Changed();
         promise22ChangedBack();
         promise22Ranks();
+        promise22LastNumbers();
         promise22Refuses();
         promise22Kept();
         promise22LatestCountsUnkept();
@@ -132,6 +133,22 @@ public final class NoticesTest {
         x.setRule(1, 5, 0, 0);
         x.tick(10);
         notice(x, 0, 22, 0, 4, 0);
+    }
+
+    private static void promise22LastNumbers() {
+        HarbourlightMonitor x = watching(0, 0, 0, 0, 0, 0, 0, 0, 0, 0, 0, 5);
+        for (int rule = 1; rule < 6; rule++) {
+            x.rule(0, 0, 1, 0, 5, true);
+        }
+        x.setRule(5, 5, 0, 2);
+        x.tell(11, 6);
+        x.tick(1);
+        x.hush(0, -1, 9);
+        ticks(x, 1);
+        notice(x, 0, 2, 0, 1, 2);
+        c.due("22 RULE 5, KEY 11", x.alert(5, 11, 2), 0);
+        c.due("22 RULE 0, KEY 11", x.alert(0, 11, 2), 2);
+        c.due("22 RULE 1, KEY 11", x.alert(1, 11, 2), 3);
     }
 
     private static void promise22Refuses() {

@@ -234,6 +234,11 @@ public final class ToldTest {
         c.badArgument("6 wait", x, () -> x.setRule(0, 1, 21, 0));
         c.badArgument("6 rank", x, () -> x.setRule(0, 1, 1, -1));
         c.badArgument("6 rank", x, () -> x.setRule(0, 1, 1, 4));
+        x.series(1, 0, 0);
+        x.tell(0, 6);
+        c.badArgument("6 rank", x, () -> x.setRule(0, 1, 20, 4));
+        x.tick(1);
+        c.due("6 the refused ones set no WAIT", x.alert(0, 0, 0), 2);
         c.due("6 the refused ones set no LIMIT", x.setRule(0, 1, 20, 3), 5);
     }
 
@@ -266,6 +271,11 @@ public final class ToldTest {
         c.due("7 left", x.dropRule(), 0);
         c.due("7 no ALERTS", x.many(3), 0);
         c.badState("7 none", x, () -> x.dropRule());
+        x.rule(0, 0, 1, 0, 5, true);
+        x.unhush(0);
+        x.hush(0, -1, 9);
+        c.due("7 left", x.dropRule(), 0);
+        c.due("7 the last HUSH, too", x.many(2), 0);
     }
 
     private static void promise8Hush() {
@@ -358,6 +368,13 @@ public final class ToldTest {
         }
         c.due("10 the refused ones set nothing", x.group(0, 10), 1);
         c.due("10 before", x.group(0, 10), 0);
+        x.series(1, 0, 0);
+        x.rule(0, 0, 1, 0, 5, true);
+        x.tell(0, 6);
+        x.tick(2);
+        c.badArgument("10 grouping 3", x, () -> x.group(3, 5));
+        c.due("10 the refused ones set no REPEAT", x.tick(9), 0);
+        c.due("10 the refused ones set no REPEAT", x.tick(1), 1);
     }
 
     private static void promise11Tick() {

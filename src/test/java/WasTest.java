@@ -193,12 +193,12 @@ public final class WasTest {
         HarbourlightMonitor x = new HarbourlightMonitor();
         x.series(2, 0, 0);
         x.tick(1);
-        for (int i = 0; i < 4; i++) {
+        for (int i = 0; i < 9; i++) {
             x.tell(0, i);
         }
         x.tick(1);
-        c.due("16 PART 50, the 2nd of 4 in the first COUNT", x.look(0, 5, 1), 10 * 2 / 4);
-        c.due("16 PART 75, the 3rd of 4 in the first COUNT", x.look(0, 6, 1), 10 * 3 / 4);
+        c.due("16 PART 50, the 5th of 9 in the first COUNT", x.look(0, 5, 1), 10 * 5 / 9);
+        c.due("16 PART 75, the 7th of 9 in the first COUNT", x.look(0, 6, 1), 10 * 7 / 9);
         for (int i = 0; i < 200; i++) {
             x.tell(0, i < 80 ? 5 : i < 120 ? 20 : i < 160 ? 70 : 300);
         }

@@ -93,7 +93,7 @@ public final class LanguageTest {
         long before = threads.getCurrentThreadAllocatedBytes();
         HarbourlightMonitor x = new HarbourlightMonitor();
         fill(x);
-        for (int i = 0; i < 200; i++) {
+        for (int i = 0; i < 150; i++) {
             x.tick(10);
             x.digest();
             x.burningIn(10);

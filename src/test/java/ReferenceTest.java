@@ -12,7 +12,8 @@ import java.util.TreeSet;
  */
 public final class ReferenceTest {
     private static final int RUNS = 1500;
-    private static final int CALLS = 512;
+    /** The digest() at the end is the last one that is promised. */
+    private static final int CALLS = 511;
 
     public static void main(String[] args) {
         Checks c = new Checks();

@@ -271,27 +271,37 @@ public final class WouldBeTest {
             d = d * 31;
         }
         c.due("27 of a new object", x.digest(), d);
-        int[] limits = new int[6];
-        for (int s = 0; s < 12; s++) {
-            x.series(s % 3, s % 2, s % 6);
+        int[] limits = {-5, 5, 15};
+        int notices = 0;
+        for (int rounds = 0; rounds <= 24; rounds++) {
+            HarbourlightMonitor y = replayed(limits, rounds);
+            notices = y.many(6);
+            long due = foldedByHand(y, limits, Math.min(30, notices));
+            c.due("27 behind " + rounds + " rounds", y.digest(), due);
         }
-        for (int rule = 0; rule < 6; rule++) {
-            limits[rule] = rule * 10 - 5;
-            x.rule(rule % 2, rule, 6, rule % 3, limits[rule], rule != 3);
-            x.setRule(rule, limits[rule], rule % 4, rule == 0 ? 2 : rule % 2);
+        c.due("27 more NOTICES than are kept: " + notices, notices > 30 ? 1 : 0, 1);
+    }
+
+    private static HarbourlightMonitor replayed(int[] limits, int rounds) {
+        HarbourlightMonitor x = new HarbourlightMonitor();
+        for (int s = 0; s < 4; s++) {
+            x.series(s % 3, s % 2, s);
+        }
+        for (int rule = 0; rule < 3; rule++) {
+            x.rule(rule % 2, rule, 6, rule, limits[rule], rule != 1);
+            x.setRule(rule, limits[rule], rule, rule == 0 ? 2 : rule % 2);
         }
         x.group(2, 5);
-        for (int round = 0; round < 30; round++) {
-            for (int s = 0; s < 12; s++) {
+        for (int round = 0; round < rounds; round++) {
+            for (int s = 0; s < 4; s++) {
                 x.tell(s, (round * 37 + s * 11) % 120);
             }
-            if (round % 3 == 0 && x.many(2) < 5) {
-                x.hush(round % 2 == 0 ? -1 : 2, round % 6, 4 + round);
+            if (round % 5 == 0) {
+                x.hush(round % 2 == 0 ? -1 : 2, round % 4, 2 + round);
             }
-            x.tick(1 + round % 3);
-            c.due("27 in round " + round, x.digest(), foldedByHand(x, limits, Math.min(30, x.many(6))));
+            x.tick(2 + round % 3);
         }
-        c.due("27 more NOTICES than are kept: " + x.many(6), x.many(6) > 30 ? 1 : 0, 1);
+        return x;
     }
 
     private static void promise27ChangesNothing() {

@@ -1,9 +1,20 @@
+import java.io.IOException;
+import java.io.UncheckedIOException;
+import java.nio.file.Files;
+import java.nio.file.Path;
+import java.util.HashSet;
+import java.util.Set;
+
 /** Counts the answers that are not the ones due; end() closes a test with exit code 1 if there was one. */
 final class Checks {
     interface Call {
         void make();
     }
 
+    private static final Path DOCUMENT = Path.of("../shared/DOC.md");
+
+    private final Set<String> quoted = new HashSet<>();
+    private String sentence = "";
     private int checked = 0;
     private int wrong = 0;
 
@@ -15,13 +26,39 @@ final class Checks {
         verdict(call, got == want, String.valueOf(got), String.valueOf(want));
     }
 
+    /** Names the sentence that the answers from here on are about; it has to stand in the document word by word. */
+    void says(String words) {
+        sentence = words + " | ";
+        quoted.add(words);
+        verdict("the document", squeezed(document()).contains(words), "no such words", "these words");
+    }
+
+    /** Each line of the document that begins so has been quoted, as a whole, by says(). */
+    void quotedAllThatBegin(String beginning) {
+        sentence = "";
+        for (String line : document().split("\n")) {
+            if (line.startsWith(beginning)) {
+                verdict("a test of: " + line, quoted.contains(line), "none", "one");
+            }
+        }
+    }
+
+    void accepted(String call, Call made) {
+        RuntimeException thrown = thrownBy(made);
+        verdict(call, thrown == null, String.valueOf(thrown), "no exception");
+    }
+
     /** Also looks that the refused call changed nothing, and that the class threw by itself, not the library for it. */
     void refused(String call, HarbourlightMonitor x, Class<? extends RuntimeException> due, Call made) {
         long before = x.digest();
+        thrown(call, due, made);
+        due(call + " changes nothing: digest()", x.digest(), before);
+    }
+
+    void thrown(String call, Class<? extends RuntimeException> due, Call made) {
         RuntimeException thrown = thrownBy(made);
         String got = thrown == null ? "no exception" : thrown.getClass().getSimpleName() + " of " + throwerOf(thrown);
         verdict(call, got.equals(due.getSimpleName() + " of HarbourlightMonitor"), got, due.getSimpleName());
-        due(call + " changes nothing: digest()", x.digest(), before);
     }
 
     void badIndex(String call, HarbourlightMonitor x, Call made) {
@@ -57,11 +94,23 @@ final class Checks {
         return frames.length == 0 ? "the machine" : frames[0].getClassName();
     }
 
+    private static String document() {
+        try {
+            return Files.readString(DOCUMENT);
+        } catch (IOException e) {
+            throw new UncheckedIOException(e);
+        }
+    }
+
+    private static String squeezed(String text) {
+        return text.replaceAll("\\s+", " ");
+    }
+
     private void verdict(String call, boolean isRight, String got, String want) {
         checked++;
         if (!isRight) {
             wrong++;
-            System.out.println(call + " answered " + got + ", due is " + want);
+            System.out.println(sentence + call + " answered " + got + ", due is " + want);
         }
     }
 }

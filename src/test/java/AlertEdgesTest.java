@@ -21,6 +21,7 @@ public final class AlertEdgesTest {
         keysOfPlaces();
         keyOfAllTogether();
         lastKeys();
+        eachKeyIsSeen();
         justTheLimit();
         limitsAtTheMost();
         waitZero();
@@ -43,8 +44,10 @@ public final class AlertEdgesTest {
         dropRuleTakesAlerts();
         quietByRank();
         quietByPlace();
+        quietByEachKey();
         quietByOneThatBurns();
         quietByOneNotHushed();
+        quietByOneHushedElsewhere();
         quietByOneThatIsQuiet();
         standsOutsideOfKeys();
         alertOutsideOfKeys();
@@ -213,6 +216,25 @@ public final class AlertEdgesTest {
         tellAll(x, 6);
         x.tick(1);
         c.due("all ALERTS", x.many(3), 62);
+    }
+
+    private static void eachKeyIsSeen() {
+        c.says("a place among all ALERTS, by RULES, then by KEYS, from 0");
+        for (int key = 0; key < 12; key++) {
+            HarbourlightMonitor x = gauges(0, 0, 0, 0, 0, 0, 0, 0, 0, 0, 0, 0);
+            rules(x, 0, 0, 0, 0, 0, 0);
+            x.tell(key, 6);
+            x.tick(1);
+            for (int rule = 0; rule < 6; rule++) {
+                c.due("the RULE of place " + rule, x.alertAt(rule, 0), rule);
+                c.due("the KEY of place " + rule, x.alertAt(rule, 1), key);
+            }
+            x.hush(5, 0, 9);
+            x.hush(-1, -1, 9);
+            c.due("one HUSH hushes KEY " + key + " of RULE 5", x.ofHush(0, 3), 1);
+            c.due("the other one KEY " + key + " of each", x.ofHush(1, 3), 6);
+            hearing("KEY " + key + " of RULE 5", x, 5, key, HUSHED);
+        }
     }
 
     private static void justTheLimit() {
@@ -609,6 +631,25 @@ public final class AlertEdgesTest {
         hearing("not by itself", allByAll, 1, 0, LOUD);
     }
 
+    private static void quietByEachKey() {
+        c.says("QUIET is one, if another one, whose RULE has a greater RANK, with the same PLACE");
+        for (int key = 1; key < 12; key++) {
+            for (int rule = 1; rule < 6; rule++) {
+                HarbourlightMonitor x = gauges(0, 0, 0, 0, 0, 0, 0, 0, 0, 0, 0, 0);
+                rules(x, 0, 0, 0, 0, 0, 0);
+                x.setRule(rule, 5, 0, 1);
+                x.setRule(0, -1, 0, 0);
+                x.tell(key, 6);
+                x.tick(1);
+                hearing("by KEY " + key + " of RULE " + rule, x, 0, 0, QUIET);
+                hearing("by KEY " + key + " of RULE " + rule, x, 0, 11, QUIET);
+                c.due("all but that one", x.many(5), 1);
+                x.hush(rule, 0, 9);
+                hearing("as it is HUSHED", x, 0, 0, LOUD);
+            }
+        }
+    }
+
     private static void quietByOneThatBurns() {
         c.says("with the same PLACE, or with the PLACE NONE, BURNS, and is not HUSHED");
         HarbourlightMonitor x = gauges(4);
@@ -638,6 +679,22 @@ public final class AlertEdgesTest {
         hearing("as the HUSH is over", x, 0, 0, QUIET);
         x.hush(0, 2, 9);
         hearing("HUSHED, and QUIET, too", x, 0, 0, HUSHED);
+    }
+
+    private static void quietByOneHushedElsewhere() {
+        c.says("or with the PLACE NONE, BURNS, and is not HUSHED");
+        for (int place = -1; place <= 5; place++) {
+            HarbourlightMonitor x = ranked(0, 0, 1, 2, 0, 5);
+            x.hush(1, place, 9);
+            // A HUSH for a PLACE does not hush the one with the PLACE NONE, not even for those at that PLACE.
+            hearing("the one with the PLACE NONE, with a HUSH for " + place, x, 1, 0, place == NONE ? HUSHED : LOUD);
+            hearing("PLACE 0, with a HUSH for " + place, x, 0, 0, place == NONE ? LOUD : QUIET);
+            hearing("PLACE 5, with a HUSH for " + place, x, 0, 1, place == NONE ? LOUD : QUIET);
+            c.due("LOUD", x.many(5), place == NONE ? 2 : 1);
+            HarbourlightMonitor y = ranked(0, 2, 1, 2, 0, 5);
+            y.hush(1, place, 9);
+            hearing("NONE by NONE, with a HUSH for " + place, y, 0, 0, place == NONE ? LOUD : QUIET);
+        }
     }
 
     private static void quietByOneThatIsQuiet() {

@@ -7,6 +7,7 @@ public final class NoticeEdgesTest {
     public static void main(String[] args) {
         withTheTickAhead();
         withTheTickAheadOfOthers();
+        withTheTickAheadOfADroppedRule();
         notWithTheTickAhead();
         afterOneOfNone();
         threeTicksForAnotherSet();
@@ -15,6 +16,7 @@ public final class NoticeEdgesTest {
         anotherSetOfAnotherRule();
         theSameSetAgain();
         theSameSetOfOtherAlerts();
+        theSetOfEachRuleAndKey();
         repeatOfTen();
         repeatAtItsEnds();
         repeatMadeLess();
@@ -33,6 +35,7 @@ public final class NoticeEdgesTest {
         latestOfNoneThatIsNotKept();
         groupingAnew();
         groupingAnewWithTold();
+        groupingAnewOfEachGroup();
         groupingTheSame();
         thirtyKept();
         groupsByNumbers();
@@ -126,6 +129,31 @@ public final class NoticeEdgesTest {
         y.tell(1, 6);
         sent(y, 0, 1);
         notice(y, 0, 3, 1, 1, 0);
+    }
+
+    private static void withTheTickAheadOfADroppedRule() {
+        c.says("if the GROUP had LOUD ones with the TICK ahead, too");
+        for (int grouping = 0; grouping <= 2; grouping++) {
+            HarbourlightMonitor x = watched(0);
+            x.group(grouping, 10);
+            x.tell(0, 6);
+            sent(x, 0);
+            x.dropRule();
+            x.rule(0, 0, 1, 0, 5, true);
+            // The GROUP is the same by its number, whether its ALERT is an old one or came with this TICK.
+            sent(x, 1);
+            notice(x, 0, 2, 0, 1, 0);
+            HarbourlightMonitor y = watched(0);
+            y.group(grouping, 10);
+            y.tell(0, 6);
+            sent(y, 0);
+            y.dropRule();
+            sent(y, 0);
+            y.rule(0, 0, 1, 0, 5, true);
+            // There was a TICK without any.
+            sent(y, 0, 1);
+            notice(y, 0, 4, 0, 1, 0);
+        }
     }
 
     private static void notWithTheTickAhead() {
@@ -265,6 +293,32 @@ public final class NoticeEdgesTest {
         quietTill(x, 11);
         sent(x, 1);
         notice(x, 0, 12, 0, 1, 0);
+    }
+
+    private static void theSetOfEachRuleAndKey() {
+        c.says("with the set of its LOUD ones now, by the numbers of RULE and KEY");
+        for (int rule = 0; rule < 6; rule++) {
+            for (int key = 0; key < 12; key++) {
+                HarbourlightMonitor x = watched(0, 0, 0, 0, 0, 0, 0, 0, 0, 0, 0, 0);
+                for (int r = 0; r < 6; r++) {
+                    if (r > 0) {
+                        x.rule(0, 0, 1, 0, 5, true);
+                    }
+                    x.setRule(r, r == rule ? 5 : 999, 0, 0);
+                }
+                x.group(0, 50);
+                x.tell((key + 1) % 12, 1000);
+                sent(x, 0, 1);
+                notice(x, 0, 2, 0, 6, 0);
+                // One more, that of RULE and KEY alone; then it ends.
+                x.tell(key, 6);
+                sent(x, 0, 0, 1);
+                notice(x, 0, 5, 0, 7, 0);
+                x.tell(key, 0);
+                sent(x, 0, 0, 1);
+                notice(x, 0, 8, 0, 6, 0);
+            }
+        }
     }
 
     private static void repeatOfTen() {
@@ -578,6 +632,56 @@ public final class NoticeEdgesTest {
         z.tell(1, 6);
         sent(z, 0, 1, 0, 0, 0);
         notice(z, 0, 4, 0, 2, 0);
+    }
+
+    /** Six RULES of six PLACES, and RULE 5 of all together: as many LOUD ones as GROUPS by each GROUPING. */
+    private static HarbourlightMonitor loudInEachGroup(int grouping) {
+        HarbourlightMonitor x = watched(0, 1, 2, 3, 4, 5);
+        for (int rule = 1; rule < 6; rule++) {
+            x.rule(0, 0, 1, rule == 5 ? 2 : 0, 5, true);
+        }
+        x.group(grouping, 50);
+        tellAll(x, 6);
+        return x;
+    }
+
+    private static void groupingAnewOfEachGroup() {
+        c.says("it is as if there had been no NOTICES, nor LOUD ones with the TICK ahead");
+        int[] groups = {1, 6, 7};
+        for (int grouping = 0; grouping <= 2; grouping++) {
+            HarbourlightMonitor x = loudInEachGroup(grouping);
+            sent(x, 0, groups[grouping]);
+            x.group((grouping + 1) % 3, 50);
+            x.group(grouping, 50);
+            sent(x, 0, groups[grouping]);
+            x.group((grouping + 1) % 3, 50);
+            x.group(grouping, 50);
+            x.hush(-1, -1, 60);
+            // None was told of: none tells of none.
+            sent(x, 0, 0);
+            HarbourlightMonitor y = loudInEachGroup(grouping);
+            sent(y, 0);
+            y.group((grouping + 1) % 3, 50);
+            y.group(grouping, 50);
+            // None was LOUD with the TICK ahead.
+            sent(y, 0, groups[grouping]);
+        }
+        HarbourlightMonitor z = watched(0);
+        for (int rule = 1; rule < 6; rule++) {
+            z.rule(0, 0, 1, 0, 5, true);
+        }
+        for (int rule = 0; rule < 5; rule++) {
+            z.hush(rule, -1, 60);
+        }
+        z.tell(0, 6);
+        sent(z, 0, 1);
+        z.group(1, 10);
+        z.group(0, 10);
+        z.setRule(5, 10000, 0, 0);
+        // What was told of RULE 5 counts no more: it is told of anew while it BURNS on.
+        sent(z, 0, 1, 1);
+        notice(z, 1, 4, 0, 1, 0);
+        notice(z, 0, 5, 0, 0, NONE);
     }
 
     private static void groupingTheSame() {

@@ -13,6 +13,7 @@ public final class WouldBeEdgesTest {
         burningInOfAllAsTheyAre();
         burningInAsSamplesFallBehind();
         burningInOfPartsThatFade();
+        burningInOfPartsThatGrow();
         burningInOfFewSamples();
         burningInOfNone();
         burningInIgnoresHushes();
@@ -21,14 +22,17 @@ public final class WouldBeEdgesTest {
         beyondOfEachKey();
         beyondOfLimitsAtTheMost();
         calmIsTheLeastOrTheGreatest();
+        calmOfEachKey();
         calmOutsideOfLimits();
         calmWithoutKeys();
         loudWithoutOneThatIsOver();
         loudWithoutOneOfTwo();
         loudWithoutOneThatHushesTheLouder();
+        loudWithoutOneForTheLastKey();
         checksumOfANewObject();
         checksumWrapsAround();
         checksumOfNumbersBelowZero();
+        checksumOfJustTheLimit();
         checksumOfPendingOnes();
         checksumOfNoticesKept();
         c.end();
@@ -198,6 +202,35 @@ public final class WouldBeEdgesTest {
         c.due("nothing is told by that", x.look(0, 8, 2), 500);
     }
 
+    private static void burningInOfPartsThatGrow() {
+        c.says("PART q (of HISTOGRAMS alone; 0 of others): with the GROWTH of each of the five COUNTS");
+        int[] values = {7, 40, 80, 300, 900};
+        int[] parts = {10, 50, 100, 500, 500};
+        for (int i = 0; i < values.length; i++) {
+            HarbourlightMonitor x = looking(2, 5, 1, parts[i] - 1, true);
+            x.rule(0, 5, 1, 0, parts[i], true);
+            x.rule(0, 5, 1, 0, parts[i], false);
+            x.tick(1);
+            x.tell(0, values[i]);
+            // With the next TICK PART 50 is just as much, then 0: RULE 0 BURNS for 3 TICKS, RULE 1 never; RULE 2 BURNS
+            // since 1, where PART 50 was 0, and on with 2.
+            burning(x, 2, 2, 2, 1);
+            x.tick(1);
+            c.due("PART 50", x.look(0, 5, 1), parts[i]);
+            burning(x, 2, 2, 1);
+        }
+        HarbourlightMonitor y = looking(2, 5, 2, 60, true);
+        y.tick(1);
+        y.tell(0, 7);
+        y.tell(0, 7);
+        y.tell(0, 7);
+        y.tick(1);
+        y.tell(0, 80);
+        y.tell(0, 80);
+        // Over 2: r is 3 of 5 with the TICK to 3, 10; with 4 it is 1 of 2, 75; with 5 there is none.
+        burning(y, 0, 1, 1, 1, 0);
+    }
+
     private static void burningInOfFewSamples() {
         c.says("LATEST w of a SERIES are its last w SAMPLES (or all, if there are fewer).");
         HarbourlightMonitor mean = looking(1, 2, 4, 5, true);
@@ -334,9 +367,11 @@ public final class WouldBeEdgesTest {
 
     private static void calmIsTheLeastOrTheGreatest() {
         c.says("Returns the least number (with ABOVE; otherwise the greatest)");
-        int[][] values = {{3, 9, 5}, {-3, -9, -5}, {0, 0, 0}, {-1, 0, 1}, {1000, -1000, 7}, {4, 4, 4}};
-        int[] least = {9, -3, 0, 1, 1000, 4};
-        int[] greatest = {3, -9, 0, -1, -1000, 4};
+        int[][] values = {
+            {3, 9, 5}, {-3, -9, -5}, {0, 0, 0}, {-1, 0, 1}, {1000, -1000, 7}, {4, 4, 4}, {6, 5, 4}, {4, 5, 6}, {0, -1, 1},
+        };
+        int[] least = {9, -3, 0, 1, 1000, 4, 6, 6, 1};
+        int[] greatest = {3, -9, 0, -1, -1000, 4, 4, 4, -1};
         for (int i = 0; i < values.length; i++) {
             HarbourlightMonitor x = new HarbourlightMonitor();
             for (int s = 0; s < 3; s++) {
@@ -353,6 +388,29 @@ public final class WouldBeEdgesTest {
             c.due("nothing is beyond it", x.beyond(0, least[i]) + x.beyond(1, greatest[i]), 0);
             c.due("1 less", x.beyond(0, least[i] - 1) > 0 ? 1 : 0, 1);
             c.due("1 more", x.beyond(1, greatest[i] + 1) > 0 ? 1 : 0, 1);
+        }
+    }
+
+    private static void calmOfEachKey() {
+        c.says("nothing that it looks at now would be beyond it");
+        int[] last = {11, 5, 0};
+        for (int way = 0; way <= 2; way++) {
+            for (int key = 0; key <= last[way]; key++) {
+                HarbourlightMonitor x = new HarbourlightMonitor();
+                for (int s = 0; s <= last[way]; s++) {
+                    x.series(1, 0, s % 6);
+                }
+                x.rule(0, 0, 1, way, 0, true);
+                x.rule(0, 0, 1, way, 0, false);
+                pass(x, 0);
+                x.tell(key, 9);
+                x.tick(1);
+                c.due("ABOVE, KEY " + key + " of WAY " + way, x.calm(0), 9);
+                x.tell(key, -9);
+                x.tick(1);
+                c.due("below, KEY " + key + " of WAY " + way, x.calm(1), -9);
+                c.due("ABOVE, all the others", x.calm(0), way == 2 ? -9 : 0);
+            }
         }
     }
 
@@ -440,6 +498,24 @@ public final class WouldBeEdgesTest {
         c.due("without the second one", x.loudWithout(1), 2);
     }
 
+    private static void loudWithoutOneForTheLastKey() {
+        c.says("Returns how many ALERTS would be LOUD without it.");
+        HarbourlightMonitor x = new HarbourlightMonitor();
+        for (int s = 0; s < 12; s++) {
+            x.series(1, 0, s == 11 ? 5 : 0);
+        }
+        for (int rule = 0; rule < 6; rule++) {
+            x.rule(0, 0, 1, 0, 5, true);
+        }
+        x.tell(11, 6);
+        x.tick(1);
+        x.hush(5, 5, 9);
+        x.hush(0, 5, 9);
+        c.due("LOUD", x.many(5), 4);
+        c.due("without the one of RULE 5", x.loudWithout(0), 5);
+        c.due("without the one of RULE 0", x.loudWithout(1), 5);
+    }
+
     private static final BigInteger ALL = BigInteger.ONE.shiftLeft(64);
 
     /** The checksum by the words of the document, in numbers that do not wrap around by themselves. */
@@ -510,6 +586,21 @@ public final class WouldBeEdgesTest {
         c.due("ALERTS that BURN", x.many(4), 2);
         c.due("the one of RULE 1, since", x.alert(1, 0, 1), 4);
         c.due("digest()", x.digest(), due.wrapped());
+    }
+
+    private static void checksumOfJustTheLimit() {
+        c.says("for each RULE calm(), beyond() of its LIMIT");
+        for (int value = 4; value <= 6; value++) {
+            HarbourlightMonitor x = watched(0);
+            x.rule(0, 0, 1, 0, 5, false);
+            // No TICK goes by with the LIMITS that are set then: there are no ALERTS.
+            pass(x, 5);
+            x.setRule(0, value, 0, 0);
+            x.setRule(1, value, 0, 0);
+            Sum due = new Sum().with(1, 1, 2, 0, 0, 0, 0, 0).with(5, 1, 0, 0, 0, 0, 0).with(5, 0).with(5, 0, 5, 5, 5, 0, 0, 0, 0);
+            due.with(5, value < 5 ? 1 : 0).with(5, value > 5 ? 1 : 0);
+            c.due("LIMITS of " + value, x.digest(), due.wrapped());
+        }
     }
 
     private static void checksumOfPendingOnes() {
